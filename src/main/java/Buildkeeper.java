@@ -26,7 +26,6 @@ public final class Buildkeeper {
   private static final int OWN = 2;
   private static final int BY_PATTERN = 3;
 
-  private static final int JOIN = 0;
   private static final int SORTED = 1;
   private static final int COUNTED = 2;
   private static final int FIRST_ONES = 3;
@@ -53,6 +52,8 @@ public final class Buildkeeper {
 
   private static final int TOLD = 12;
   private static final int TOLD_TIME = 2;
+  private static final int TOLD_DONE = 3;
+  private static final int TOLD_SAME = 4;
   private static final int HISTORY = 8;
 
   private final Plan plan = new Plan();
@@ -568,21 +569,26 @@ public final class Buildkeeper {
   }
 
   public boolean isSound() {
-    for (int head = 0; head < NAMES; head++) {
-      if (plan.isOwn(head)) {
-        roads.findRing(head);
-        boolean hasNoRing = roads.pathCount == 0;
-        roads.reachFrom(head);
-        if (hasNoRing != (roads.seen[head] == 0)) {
-          return false;
-        }
-      }
+    if (!areRingsAlike()) {
+      return false;
     }
     int head = firstWorking();
     if (head < 0 || !roads.putInOrder()) {
       return true;
     }
-    return isBuiltAsFromNothing(head) && isBuiltAlikeByMany(head);
+    survey.makeAll();
+    trial.copyCalm(works);
+    trial.run(head, 1, 0);
+    if (!isAsFromNothing(head)) {
+      return false;
+    }
+    trial.run(head, 1, 0);
+    if (trial.report.told[TOLD_DONE] > 0 || trial.report.told[TOLD_SAME] > 0) {
+      return false;
+    }
+    rival.copyCalm(works);
+    rival.run(head, 3, 7);
+    return areTriesAlike();
   }
 
   public long digest() {
@@ -877,6 +883,21 @@ public final class Buildkeeper {
 
   // ---- soundness
 
+  /** Whether ring() and reaches() tell the same of the heads of all own steps. */
+  private boolean areRingsAlike() {
+    for (int head = 0; head < NAMES; head++) {
+      if (plan.isOwn(head)) {
+        roads.findRing(head);
+        boolean isRing = roads.pathCount > 0;
+        roads.reachFrom(head);
+        if (isRing != (roads.seen[head] == 1)) {
+          return false;
+        }
+      }
+    }
+    return true;
+  }
+
   /** The smallest head of an own step that is no group, or NONE. */
   private int firstWorking() {
     for (int head = 0; head < NAMES; head++) {
@@ -887,26 +908,16 @@ public final class Buildkeeper {
     return NONE;
   }
 
-  private boolean isBuiltAsFromNothing(int head) {
-    survey.makeAll();
-    trial.copyFrom(works);
-    trial.makeCalm();
-    trial.run(head, 1, 0);
-    int state = trial.report.state[head];
-    boolean isBuilt = trial.contents.has(head) && trial.contents.sums[head] == survey.made.sums[head];
-    boolean isBad = state == FAILED || state == HANGS;
-    if (survey.hasScratch(head) ? !isBuilt : !isBad) {
-      return false;
+  /** Whether the trial has built what the survey made just before. */
+  private boolean isAsFromNothing(int head) {
+    if (!survey.hasScratch(head)) {
+      int state = trial.report.state[head];
+      return state == FAILED || state == HANGS;
     }
-    trial.run(head, 1, 0);
-    return trial.report.told[DONE] == 0 && trial.report.told[SAME] == 0;
+    return trial.contents.has(head) && trial.contents.sums[head] == survey.made.sums[head];
   }
 
-  /** Compares with what the trial has built just before. */
-  private boolean isBuiltAlikeByMany(int head) {
-    rival.copyFrom(works);
-    rival.makeCalm();
-    rival.run(head, 3, 7);
+  private boolean areTriesAlike() {
     for (int name = 0; name < NAMES; name++) {
       if (plan.headOf[name] >= 0
           && (trial.contents.there[name] != rival.contents.there[name]
@@ -1378,15 +1389,17 @@ public final class Buildkeeper {
     }
 
     void setOne(int name, int number) {
-      setEmpty(name);
-      addTo(name, number);
+      there[name] = 1;
+      size[name] = 1;
+      numbers[name * MOST_NUMBERS] = number;
+      sums[name] = number + 1;
     }
 
     void setRow(int name, int[] row, int count) {
-      setEmpty(name);
-      for (int i = 0; i < count && i < row.length; i++) {
-        addTo(name, row[i]);
-      }
+      there[name] = 1;
+      size[name] = Math.min(count, MOST_NUMBERS);
+      System.arraycopy(row, 0, numbers, name * MOST_NUMBERS, size[name]);
+      sums[name] = sumOfRow(row, size[name]);
     }
 
     boolean isLike(int name, long wanted) {
@@ -1506,18 +1519,14 @@ public final class Buildkeeper {
       this.records = records;
     }
 
-    void readNeeds(int head) {
+    /** Reads the needs, then, if asked for, what is found by the first one as it is now: while a build lasts, that stays as it was when it was found. */
+    void read(int head, boolean isWithFound) {
       count = 0;
       needCount = plan.needCount[head];
       for (int place = 0; place < needCount; place++) {
         addRead(plan.needs[head * MOST_NEEDS + place]);
       }
-    }
-
-    /** The needs, then what is found by the first one as it is now: while a build lasts, that stays as it was when it was found. */
-    void readAll(int head) {
-      readNeeds(head);
-      if (plan.kind[head] != INCLUDE || needCount == 0 || !contents.has(names[0])) {
+      if (!isWithFound || plan.kind[head] != INCLUDE || needCount == 0 || !contents.has(names[0])) {
         return;
       }
       int first = names[0];
@@ -1729,12 +1738,17 @@ public final class Buildkeeper {
     void setBound(int newBound) {
       bound = newBound;
       for (int i = 0; i < MOST_ENTRIES && count > bound; i++) {
-        takeOut(0);
+        takeEldest();
       }
     }
 
+    private void takeEldest() {
+      makeLatest(0);
+      count--;
+    }
+
     /** The place of the entry with the key, or NONE. */
-    int find(int kind, int parameter, Reading reading) {
+    private int find(int kind, int parameter, Reading reading) {
       for (int i = 0; i < count; i++) {
         if (entries[i].hasKey(kind, parameter, reading)) {
           return i;
@@ -1743,18 +1757,33 @@ public final class Buildkeeper {
       return NONE;
     }
 
-    Entry makeLatest(int place) {
+    /** The entry with the key, which is the latest one then; null without one, or if it is wrong. */
+    Entry fetch(int kind, int parameter, Reading reading) {
+      if (bound == 0) {
+        return null;
+      }
+      int place = find(kind, parameter, reading);
+      if (place < 0) {
+        missed++;
+        return null;
+      }
+      makeLatest(place);
+      Entry entry = entries[count - 1];
+      if (entry.isWrong()) {
+        wrong++;
+        count--;
+        return null;
+      }
+      fetched++;
+      return entry;
+    }
+
+    private void makeLatest(int place) {
       Entry entry = entries[place];
       for (int i = place; i + 1 < count; i++) {
         entries[i] = entries[i + 1];
       }
       entries[count - 1] = entry;
-      return entry;
-    }
-
-    void takeOut(int place) {
-      makeLatest(place);
-      count--;
     }
 
     void putIn(int kind, int parameter, Reading reading, Maker maker) {
@@ -1764,12 +1793,13 @@ public final class Buildkeeper {
       int place = find(kind, parameter, reading);
       if (place < 0) {
         if (count >= bound) {
-          takeOut(0);
+          takeEldest();
         }
         place = count;
         count++;
       }
-      Entry entry = makeLatest(place);
+      makeLatest(place);
+      Entry entry = entries[count - 1];
       entry.setKey(kind, parameter, reading);
       entry.setResult(maker.row, maker.size);
     }
@@ -1936,8 +1966,9 @@ public final class Buildkeeper {
       retries = other.retries;
     }
 
-    /** Nothing disturbs from now on: no faults, no cache, no stop. */
-    void makeCalm() {
+    /** Copies all but what disturbs: no faults, no cache, no stop. */
+    void copyCalm(Works other) {
+      copyFrom(other);
       Arrays.fill(records.faults, 0);
       store.setBound(0);
       isKept = true;
@@ -1954,7 +1985,11 @@ public final class Buildkeeper {
       now = 0;
       want(goal);
       for (int round = 0; round < MANY; round++) {
-        goOn();
+        int head = nextToGoOn();
+        if (head >= 0) {
+          goOn(head);
+          continue;
+        }
         begin();
         if (!isIdle()) {
           endTries();
@@ -1990,18 +2025,9 @@ public final class Buildkeeper {
       return head < 0 || report.state[head] <= GATHERED;
     }
 
-    private void goOn() {
-      for (int turn = 0; turn < MANY && !isStopped; turn++) {
-        int head = nextToGoOn();
-        if (head < 0) {
-          return;
-        }
-        goOnWith(head);
-      }
-    }
-
+    /** The smallest head of those that can go on, or NONE. */
     private int nextToGoOn() {
-      for (int head = 0; head < NAMES; head++) {
+      for (int head = 0; head < NAMES && !isStopped; head++) {
         if (report.state[head] == WAITS && firstUnsettled(head) < 0) {
           return head;
         }
@@ -2009,17 +2035,8 @@ public final class Buildkeeper {
       return NONE;
     }
 
-    /** Reads the needs of a step, and what it has found if it has; so the rows of the reading are about it then. */
-    private void readNow(int head) {
-      if (hasFound[head] == 1) {
-        reading.readAll(head);
-      } else {
-        reading.readNeeds(head);
-      }
-    }
-
     private int firstUnsettled(int head) {
-      readNow(head);
+      reading.read(head, hasFound[head] == 1);
       for (int i = 0; i < reading.count; i++) {
         if (!isSettled(reading.names[i])) {
           return reading.names[i];
@@ -2028,8 +2045,8 @@ public final class Buildkeeper {
       return NONE;
     }
 
-    private void goOnWith(int head) {
-      readNow(head);
+    private void goOn(int head) {
+      reading.read(head, hasFound[head] == 1);
       int missing = firstMissing();
       int bad = firstBad();
       if (missing >= 0) {
@@ -2067,44 +2084,29 @@ public final class Buildkeeper {
 
     private void findMore(int head) {
       hasFound[head] = 1;
-      reading.readAll(head);
+      reading.read(head, true);
       for (int i = reading.needCount; i < reading.count; i++) {
         want(reading.names[i]);
       }
     }
 
+    /** Looks at a step of which all was read just before. */
     private void lookAt(int head) {
       reading.look(head);
       report.setReason(head, reading.reason, reading.reasonName);
       if (reading.reason == 0) {
         settle(head, CLEAN);
-      } else if (isFetched(head)) {
+        return;
+      }
+      Entry entry = store.fetch(plan.kind[head], plan.parameter[head], reading);
+      if (entry != null) {
+        keep(head, entry.numbers, entry.size);
+        records.fetchedCount[head]++;
         settle(head, FETCHED);
       } else {
         report.state[head] = READY;
         weights[head] = roads.weigh(head, report.state);
       }
-    }
-
-    private boolean isFetched(int head) {
-      if (store.bound == 0) {
-        return false;
-      }
-      int place = store.find(plan.kind[head], plan.parameter[head], reading);
-      if (place < 0) {
-        store.missed++;
-        return false;
-      }
-      if (store.entries[place].isWrong()) {
-        store.wrong++;
-        store.takeOut(place);
-        return false;
-      }
-      Entry entry = store.makeLatest(place);
-      keep(head, entry.numbers, entry.size);
-      store.fetched++;
-      records.fetchedCount[head]++;
-      return true;
     }
 
     /** Keeps products and record of a step of which all was read just before. */
@@ -2174,52 +2176,61 @@ public final class Buildkeeper {
 
     /** Goes on to the next end of a work, and ends all that end then. */
     private void endTries() {
-      int next = Integer.MAX_VALUE;
-      for (int hand = 0; hand < MOST_HANDS; hand++) {
-        if (atHand[hand] >= 0) {
-          next = Math.min(next, endsAt[atHand[hand]]);
-        }
-      }
-      now = next;
+      now = nextEnd();
       for (int head = 0; head < NAMES; head++) {
-        if (report.state[head] == AT_WORK && endsAt[head] == now) {
-          endTry(head);
+        if (report.state[head] != AT_WORK || endsAt[head] != now) {
+          continue;
+        }
+        if (records.faults[head] > 0) {
+          failTry(head);
+        } else {
+          finish(head);
         }
       }
     }
 
-    private void endTry(int head) {
-      boolean isFaulty = records.faults[head] > 0;
-      if (isFaulty) {
-        records.faults[head]--;
-        // all tries until now have failed, or it would not be at work any more
-        if (report.tries[head] <= retries && !isStopped) {
-          beginTry(head);
-          return;
+    private int nextEnd() {
+      int next = NONE;
+      for (int hand = 0; hand < MOST_HANDS; hand++) {
+        int head = atHand[hand];
+        if (head >= 0 && (next < 0 || endsAt[head] < next)) {
+          next = endsAt[head];
         }
       }
-      if (report.hand[head] >= 0) {
-        atHand[report.hand[head]] = NONE;
-      }
-      if (isFaulty) {
-        fail(head, BY_FAULT, NONE);
-        return;
-      }
-      reading.readAll(head);
-      maker.make(plan.kind[head], plan.parameter[head], reading);
-      if (maker.size > MOST_NUMBERS) {
-        fail(head, TOO_LONG, NONE);
+      return next;
+    }
+
+    private void failTry(int head) {
+      records.faults[head]--;
+      // all tries until now have failed, or it would not be at work any more
+      if (report.tries[head] <= retries && !isStopped) {
+        beginTry(head);
       } else {
-        finish(head);
+        freeHand(head);
+        fail(head, BY_FAULT, NONE);
       }
     }
 
     private void finish(int head) {
+      freeHand(head);
+      reading.read(head, true);
+      maker.make(plan.kind[head], plan.parameter[head], reading);
+      if (maker.size > MOST_NUMBERS) {
+        fail(head, TOO_LONG, NONE);
+        return;
+      }
       boolean isSame = isMadeAlready(head);
       keep(head, maker.row, maker.size);
       store.putIn(plan.kind[head], plan.parameter[head], reading, maker);
       records.addMinutes(head, now - report.began[head]);
       settle(head, isSame ? SAME : DONE);
+    }
+
+    private void freeHand(int head) {
+      int hand = report.hand[head];
+      if (hand >= 0) {
+        atHand[hand] = NONE;
+      }
     }
 
     private boolean isMadeAlready(int head) {
@@ -2256,7 +2267,7 @@ public final class Buildkeeper {
 
     private int seeAwaited(int head, int before) {
       int end = before;
-      readNow(head);
+      reading.read(head, hasFound[head] == 1);
       for (int i = 0; i < reading.count; i++) {
         int other = plan.headOf[reading.names[i]];
         if (other >= 0 && !isSettled(other) && seen[other] == 0 && end < NAMES) {
@@ -2308,7 +2319,7 @@ public final class Buildkeeper {
     }
 
     private boolean isStale(int head) {
-      reading.readAll(head);
+      reading.read(head, true);
       for (int i = 0; i < reading.count; i++) {
         if (!contents.has(reading.names[i])) {
           return true;
@@ -2364,7 +2375,7 @@ public final class Buildkeeper {
     }
 
     private boolean isMadeNow(int head) {
-      madeReading.readAll(head);
+      madeReading.read(head, true);
       for (int i = 0; i < madeReading.count; i++) {
         if (!hasScratch(madeReading.names[i])) {
           return false;
