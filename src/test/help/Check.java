@@ -58,8 +58,8 @@ final class Check {
   private static void compare(Object got, Object due) {
     if (!Objects.equals(got, due)) {
       wrong++;
-      StackTraceElement line = new Throwable().getStackTrace()[2];
-      System.out.println("promise " + promise + ", " + line.getFileName() + ":" + line.getLineNumber()
+      StackTraceElement[] lines = new Throwable().getStackTrace();
+      System.out.println("promise " + promise + ", " + lines[2] + ", called by " + lines[3]
           + ": answered " + got + ", due is " + due);
     }
   }
