@@ -103,7 +103,7 @@ public final class Buildkeeper {
   public int drop(int name) throws IndexOutOfBoundsException, IllegalStateException {
     checkName(name);
     checkSource(name);
-    works.forget(name);
+    works.contents.clear(name);
     plan.dropSource(name);
     return plan.sourceCount;
   }

@@ -187,6 +187,15 @@ public final class BuildTest {
     for (int kind = 0; kind <= 6; kind++) {
       Check.is(x.text(20 + kind), seconds[kind]);
     }
+    x.step(15, 5, 7, 1);
+    x.build(15, 1, 0);
+    Check.is(x.text(15), "7 99 7");
+    x.step(15, 5, 99, 1);
+    x.build(15, 1, 0);
+    Check.is(x.text(15), "99");
+    x.step(15, 5, 0, 1);
+    x.build(15, 1, 0);
+    Check.is(x.text(15), "7 0 99 4 7");
     // all, if there are no more; none by the parameter 0; without needs
     x.step(13, 3, 5, 1);
     x.build(13, 1, 0);
@@ -578,6 +587,16 @@ public final class BuildTest {
     Check.is(x.cached(4), 1);
     Check.is(x.cached(3), 4);
     Check.is(x.cachedAt(2), "5 3 4");
+    x.poison(2, 9);
+    x.remove(10);
+    x.fault(10, 1);
+    x.build(10, 1, 0);
+    became(x, 10, FAILED, 7, NONE);
+    Check.is(x.cached(1), 2);
+    Check.is(x.cached(4), 2);
+    x.build(10, 1, 0);
+    Check.is(x.cached(1), 3);
+    Check.is(x.cached(3), 5);
     // poisoned with what it is, it is not wrong
     x.step(50, 2, 0, 1);
     x.need(50, 1);

@@ -11,6 +11,7 @@ public final class NamesTest {
     promise20();
     promise21();
     promise22();
+    theFirstName();
     Check.end();
   }
 
@@ -163,6 +164,20 @@ public final class NamesTest {
     x.put(42, 7);
     Check.is(x.ofName(41, 5), 1);
     Check.is(x.ofName(45, 5), 1);
+    // from need to need, whatever their order
+    x.unpattern(3);
+    x.unpattern(4);
+    for (int head = 70; head < 76; head++) {
+      x.step(head, 0, 0, 1);
+      x.need(head, head + 1);
+    }
+    x.put(76, 1);
+    x.build(70, 1, 0);
+    Check.is(x.ofName(70, 5), 0);
+    x.remove(75);
+    Check.is(x.ofName(70, 5), 1);
+    Check.is(x.ofName(71, 5), 1);
+    Check.is(x.ofName(75, 5), 1);
     // a name that is read has no content
     x.step(50, 3, 0, 1);
     x.need(50, 51);
@@ -216,6 +231,61 @@ public final class NamesTest {
     Check.is(x.sum(2), NONE);
     Check.index(() -> x.sum(-1));
     Check.index(() -> x.sum(100));
+  }
+
+  /** 0 is a name like all others: as a head, a second product, a need, and as what is found. */
+  private static void theFirstName() {
+    Check.promise(19);
+    Buildkeeper x = new Buildkeeper();
+    x.put(1, 0);
+    x.put(1, 0);
+    x.step(10, 0, 0, 2);
+    x.need(10, 1);
+    x.second(10, 0);
+    x.step(20, 4, 0, 3);
+    x.need(20, 1);
+    x.step(30, 0, 0, 1);
+    x.need(30, 0);
+    x.need(30, 20);
+    Check.is(x.need(10, 30), -9);
+    Check.is(x.ways(30, 0), 1);
+    Check.is(x.way(30, 1, 0), "30>0>1");
+    Check.is(x.longest(30), 4);
+    Check.is(x.scratch(0), "2");
+    Check.is(x.build(30, 1, 0), 6);
+    Check.is(x.text(30), "2 2 2");
+    x.alter(0, 3);
+    x.build(30, 1, 0);
+    Check.is(x.ofBuild(10, 1), 6);
+    Check.is(x.ofBuild(10, 2), 0);
+    Check.is(x.isSound(), true);
+    Check.is(x.second(10, 9), 0);
+    Check.is(x.text(0), "?");
+    Check.is(x.second(10, 0), 9);
+    x.build(10, 1, 0);
+    Check.is(x.text(0), "2");
+    x.step(10, 6, 0, 1);
+    Check.is(x.text(0), "-");
+    x.step(10, 0, 0, 1);
+    Check.is(x.text(0), "?");
+    x.strike(10);
+    x.step(0, 0, 0, 5);
+    x.need(0, 1);
+    Check.is(x.need(0, 30), -9);
+    x.fault(0, 1);
+    Check.is(x.build(30, 2, 0), 5);
+    Check.is(x.ofBuild(20, 1), 11);
+    Check.is(x.ofBuild(20, 2), 0);
+    Check.is(x.plain(30, 0), 0);
+    Check.is(x.near(50, 1), 30);
+    Check.is(x.near(5, 0), 0);
+    x.need(0, 8);
+    x.second(0, 8);
+    Check.is(x.ring(8), "8>8");
+    x.second(0, 0);
+    x.pattern(0, 8, 0, 0, 1);
+    x.pattern(9, 0, 2, 0, 1);
+    Check.is(x.unpattern(0), 1);
   }
 
   private static void promise22() {

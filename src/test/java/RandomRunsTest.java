@@ -152,10 +152,32 @@ public final class RandomRunsTest {
     }
   }
 
+  /** Sources, and steps that need them and one another, so that much can be built from the start. */
+  private void setUp() {
+    for (int n : pool) {
+      int head = n;
+      if (random.nextInt(3) == 0) {
+        for (int i = random.nextInt(3); i >= 0; i--) {
+          int v = random.nextInt(3) > 0 ? pool[random.nextInt(pool.length)] : random.nextInt(100);
+          both("put(" + head + ", " + v + ")", x -> x.put(head, v), m -> m.put(head, v));
+        }
+        continue;
+      }
+      int kind = random.nextInt(3) == 0 ? 4 : random.nextInt(7);
+      int p = random.nextInt(10);
+      int l = 1 + random.nextInt(9);
+      both("step(" + head + ", " + kind + ", " + p + ", " + l + ")", x -> x.step(head, kind, p, l), m -> m.step(head, kind, p, l));
+      for (int i = random.nextInt(4); i > 0; i--) {
+        int need = pool[random.nextInt(pool.length)];
+        both("need(" + head + ", " + need + ")", x -> x.need(head, need), m -> m.need(head, need));
+      }
+    }
+  }
+
   private void run(int calls) {
-    int digests = 3;
+    int digests = 12;
     for (int i = 0; i < calls; i++) {
-      if (i % 128 == 127 && digests > 0) {
+      if (i % 32 == 31 && digests > 0) {
         digests--;
         both("isSound()", x -> x.isSound(), m -> m.isSound());
         both("digest()", x -> x.digest(), m -> m.digest());
@@ -177,7 +199,9 @@ public final class RandomRunsTest {
       model = new Model();
       log.clear();
       log.add("seed " + seed);
-      new RandomRunsTest(seed).run(seed % 5 == 0 ? 60 : 500);
+      RandomRunsTest test = new RandomRunsTest(seed);
+      if (seed % 2 == 0) test.setUp();
+      test.run(seed % 5 == 0 ? 60 : 400);
     }
     System.out.println(wrong == 0 ? "all answers are alike" : "answers differ");
     System.exit(wrong == 0 ? 0 : 1);
