@@ -30,15 +30,24 @@ final class Check {
   }
 
   static void index(Act act) {
-    compare(thrown(act), "IndexOutOfBoundsException");
+    compare(outcome(act), "IndexOutOfBoundsException");
   }
 
   static void argument(Act act) {
-    compare(thrown(act), "IllegalArgumentException");
+    compare(outcome(act), "IllegalArgumentException");
   }
 
   static void state(Act act) {
-    compare(thrown(act), "IllegalStateException");
+    compare(outcome(act), "IllegalStateException");
+  }
+
+  /** What was answered, or the name of the exception that was thrown. */
+  static String outcome(Act act) {
+    try {
+      return "answered " + act.run();
+    } catch (RuntimeException e) {
+      return e.getClass().getSimpleName();
+    }
   }
 
   /** Ends the program; a test calls it last. */
@@ -47,20 +56,20 @@ final class Check {
     System.exit(wrong == 0 ? 0 : 1);
   }
 
-  private static String thrown(Act act) {
-    try {
-      return "answered " + act.run();
-    } catch (RuntimeException e) {
-      return e.getClass().getSimpleName();
-    }
-  }
-
   private static void compare(Object got, Object due) {
     if (!Objects.equals(got, due)) {
       wrong++;
-      StackTraceElement[] lines = new Throwable().getStackTrace();
-      System.out.println("promise " + promise + ", " + lines[2] + ", called by " + lines[3]
-          + ": answered " + got + ", due is " + due);
+      System.out.println("promise " + promise + ", " + lines() + ": answered " + got + ", due is " + due);
     }
+  }
+
+  /** The lines of the test that stand open, the innermost one first. */
+  private static String lines() {
+    StringBuilder out = new StringBuilder();
+    StackTraceElement[] all = new Throwable().getStackTrace();
+    for (int i = 3; i < all.length && i < 7; i++) {
+      out.append(i > 3 ? " < " : "").append(all[i].getFileName()).append(':').append(all[i].getLineNumber());
+    }
+    return out.toString();
   }
 }
