@@ -308,6 +308,27 @@ public final class EdgesOfBuildsTest {
     tell(y, 40, 0, 9, 10);
     y.build(30, 1, 0);
     Check.is(y.trace(), "11@0 22@2 10@7 20@8 21@11 12@14");
+    // steps that were struck since the last build count no more
+    Buildkeeper u = new Buildkeeper();
+    tell(u, 10, 0, 1);
+    tell(u, 11, 0, 1);
+    tell(u, 12, 0, 1);
+    tell(u, 13, 0, 1);
+    tell(u, 20, 0, 5, 10);
+    tell(u, 21, 0, 4, 11);
+    tell(u, 5, 6, 9, 20, 21, 12, 13);
+    u.build(5, 1, 0);
+    Check.is(u.trace(), "10@0 11@1 20@2 21@7 12@11 13@12");
+    u.unneed(5, 3);
+    u.unneed(5, 2);
+    u.strike(12);
+    u.strike(13);
+    u.step(10, 0, 1, 1);
+    u.step(11, 0, 1, 1);
+    u.step(20, 0, 1, 5);
+    u.step(21, 0, 1, 4);
+    u.build(5, 1, 0);
+    Check.is(u.trace(), "10@0 11@1 20@2 21@7");
     // by the second product; whatever became of the one that needs it
     Buildkeeper z = new Buildkeeper();
     tell(z, 10, 0, 1);
@@ -615,6 +636,17 @@ public final class EdgesOfBuildsTest {
     x.build(10, 1, 0);
     became(x, 10, FAILED, 10, 19);
     times(x, 10, NONE, 0, 0, NONE);
+    // who waits for it, and who waits for that, hang
+    x.wipe(1);
+    x.put(1, 10);
+    tell(x, 20, 0, 1, 10);
+    tell(x, 30, 0, 1, 20);
+    tell(x, 40, 6, 1, 30);
+    x.build(40, 1, 0);
+    became(x, 10, FAILED, 10, 10);
+    became(x, 20, HANGS, 11, 10);
+    became(x, 30, HANGS, 11, 20);
+    became(x, 40, HANGS, 11, 30);
     // by a group: it is of the ring, and fails with it
     Buildkeeper y = new Buildkeeper();
     y.put(1, 30);

@@ -155,6 +155,16 @@ public final class EdgesOfLookingTest {
     x.unneed(10, 0);
     x.need(10, 1);
     looks(x, 3, 2);
+    // the record reads one name less than one that was kept before it
+    Buildkeeper z = scene();
+    z.mode(true, 0);
+    z.unneed(10, 1);
+    z.build(10, 1, 0);
+    Check.is(z.ofStep(10, 8), 1);
+    Check.is(z.readOf(10, 1), NONE);
+    z.mode(false, 0);
+    z.need(10, 2);
+    looks(z, 3, 2);
     // a record without names, and one that is there now
     Buildkeeper y = new Buildkeeper();
     y.put(1, 1);
@@ -425,6 +435,18 @@ public final class EdgesOfLookingTest {
     Check.is(x.wouldDo(10, 0), NONE);
     Check.is(x.isSound(), true);
     holds(x, 5, 6);
+    // asked so, it knows the whole key: KIND, PARAMETER and sums
+    Scenes.step(x, 11, 2, 1);
+    x.build(11, 1, 0);
+    x.remove(11);
+    Check.is(x.would(11, 1, 6), 1);
+    x.step(11, 2, 6, 3);
+    Check.is(x.would(11, 1, 6), 0);
+    x.step(11, 1, 5, 3);
+    Check.is(x.would(11, 1, 6), 0);
+    x.step(11, 2, 5, 3);
+    x.put(1, 1);
+    Check.is(x.would(11, 1, 6), 0);
   }
 
   /** "If the RESULT of an entry has not its SUM, it is WRONG: as it is to be FETCHED, it goes, and is counted (as WRONG alone), and the STEP is not FETCHED." */

@@ -331,6 +331,26 @@ public final class EdgesOfScratchTest {
     Check.is(x.ofName(30, 5), 1);
     // no need leads there
     Check.is(x.reaches(10, 40), false);
+    // a need that went, and one that is found no more, lead nowhere once that is built
+    Buildkeeper y = new Buildkeeper();
+    y.put(2, 1);
+    tell(y, 20, 0, 0, 2);
+    tell(y, 21, 0, 0, 2);
+    tell(y, 30, 0, 0, 21, 20);
+    Scenes.put(y, 1, 21, 20);
+    tell(y, 31, 4, 0, 1);
+    tell(y, 40, 6, 0, 30, 31);
+    y.build(40, 1, 0);
+    y.unneed(30, 1);
+    y.wipe(1);
+    y.put(1, 21);
+    Check.is(y.ofName(30, 5) + y.ofName(31, 5), 2);
+    y.build(40, 1, 0);
+    y.step(20, 0, 1, 1);
+    Check.is(y.ofName(20, 5), 1);
+    Check.is(y.ofName(30, 5) + y.ofName(31, 5) + y.ofName(40, 5), 0);
+    y.step(21, 0, 1, 1);
+    Check.is(y.ofName(30, 5) + y.ofName(31, 5) + y.ofName(40, 5), 3);
   }
 
   private static void markedByPatterns() {

@@ -332,6 +332,20 @@ public final class EdgesOfWaysTest {
     w.second(4, 9);
     Check.is(w.ring(9), "9>3>9");
     Check.is(w.ring(3), "3>9>3");
+    // the first need leads back, but only through a name that was gone through
+    Buildkeeper u = new Buildkeeper();
+    tell(u, 1, 12);
+    tell(u, 2, 13, 11);
+    tell(u, 3, 14, 12);
+    tell(u, 4, 12, 13);
+    u.second(1, 11);
+    u.second(2, 12);
+    u.second(3, 13);
+    u.second(4, 14);
+    Check.is(u.ring(11), "11>12>11");
+    Check.is(u.ring(12), "12>13>14>12");
+    Check.is(u.ring(13), "13>14>12>13");
+    Check.is(u.ring(14), "14>12>13>14");
     // 0 and 99
     Buildkeeper v = new Buildkeeper();
     tell(v, 99, 98);

@@ -39,10 +39,15 @@ public final class RandomRunsTest {
 
   private RandomRunsTest(long seed) {
     random = new Random(seed);
-    pool = new int[6 + random.nextInt(14)];
-    int stems = 1 + random.nextInt(3);
+    // some runs have few names that meet often, some have so many that all rows get full
+    pool = new int[isWide(seed) ? 45 : 6 + random.nextInt(14)];
+    int stems = isWide(seed) ? 10 : 1 + random.nextInt(3);
     for (int i = 0; i < pool.length; i++) pool[i] = random.nextInt(stems) * 10 + random.nextInt(10);
     edge = random.nextInt(3) == 0 ? 30 : 400;
+  }
+
+  private static boolean isWide(long seed) {
+    return seed % 7 == 0;
   }
 
   /** One of the names of this run; now and then any one, or none at all. */
@@ -200,8 +205,8 @@ public final class RandomRunsTest {
       log.clear();
       log.add("seed " + seed);
       RandomRunsTest test = new RandomRunsTest(seed);
-      if (seed % 2 == 0) test.setUp();
-      test.run(seed % 5 == 0 ? 60 : 400);
+      if (seed % 2 == 0 || isWide(seed)) test.setUp();
+      test.run(seed % 5 == 0 ? 60 : isWide(seed) ? 300 : 400);
     }
     System.out.println(wrong == 0 ? "all answers are alike" : "answers differ");
     System.exit(wrong == 0 ? 0 : 1);
