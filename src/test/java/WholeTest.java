@@ -234,39 +234,56 @@ public final class WholeTest {
 
   private static void promise50() {
     Check.promise(50);
-    Buildkeeper x = new Buildkeeper();
-    Check.is(x.digest(), added(x));
-    Buildkeeper y = small();
-    Check.is(y.digest(), added(y));
-    y.pattern(7, 1, 2, 0, 3);
-    y.cache(2);
-    y.put(4, 19);
-    y.put(4, 17);
-    y.step(40, 4, 3, 2);
-    y.need(40, 4);
-    y.need(40, 1);
-    y.step(50, 6, 0, 1);
-    y.need(50, 40);
-    y.need(50, 11);
-    Check.is(y.digest(), added(y));
-    y.build(50, 2, 3);
-    Check.is(y.digest(), added(y));
-    y.alter(10, 8);
-    y.fault(17, 3);
-    y.mode(false, 1);
-    y.knock();
-    y.blank();
-    Check.is(y.digest(), added(y));
-    y.build(50, 2, 3);
-    Check.is(y.digest(), added(y));
-    Check.is(y.digest() != x.digest(), true);
-    y.second(11, 18);
-    y.build(50, 1, 0);
-    Check.is(y.digest(), added(y));
-    y.need(10, 18);
-    y.need(10, 90);
-    y.second(10, 90);
-    Check.is(y.digest(), added(y));
+    for (int turn = 0; turn <= 7; turn++) {
+      Check.is(after(turn).digest(), added(turn));
+    }
+    Check.is(after(1).digest() != after(0).digest(), true);
+    Buildkeeper x = after(5);
+    Check.is(x.digest(), x.digest());
+  }
+
+  /** A keeper after so many turns of calls. */
+  private static Buildkeeper after(int turns) {
+    Buildkeeper x = turns == 0 ? new Buildkeeper() : small();
+    for (int turn = 2; turn <= turns; turn++) {
+      takeTurn(x, turn);
+    }
+    return x;
+  }
+
+  private static void takeTurn(Buildkeeper x, int turn) {
+    switch (turn) {
+      case 2:
+        x.pattern(7, 1, 2, 0, 3);
+        x.cache(2);
+        x.put(4, 19);
+        x.put(4, 17);
+        x.step(40, 4, 3, 2);
+        x.need(40, 4);
+        x.need(40, 1);
+        x.step(50, 6, 0, 1);
+        x.need(50, 40);
+        x.need(50, 11);
+        break;
+      case 4:
+        x.alter(10, 8);
+        x.fault(17, 3);
+        x.mode(false, 1);
+        x.knock();
+        x.blank();
+        break;
+      case 6:
+        x.second(11, 18);
+        x.build(50, 1, 0);
+        break;
+      case 7:
+        x.need(10, 18);
+        x.need(10, 90);
+        x.second(10, 90);
+        break;
+      default:
+        x.build(50, 2, 3);
+    }
   }
 
   private static long d;
@@ -275,9 +292,15 @@ public final class WholeTest {
     d = d * 31 + v;
   }
 
-  /** The checksum, put together from what the other calls answer. */
-  private static long added(Buildkeeper x) {
+  /** The checksum, put together from what the other calls answer; two keepers that are alike share them. */
+  private static long added(int turns) {
     d = 5901;
+    addNamesAndSteps(after(turns));
+    addBuilds(after(turns));
+    return d;
+  }
+
+  private static void addNamesAndSteps(Buildkeeper x) {
     for (int what = 0; what <= 8; what++) {
       add(x.house(what));
     }
@@ -299,6 +322,9 @@ public final class WholeTest {
         add(x.needOf(head, place));
       }
     }
+  }
+
+  private static void addBuilds(Buildkeeper x) {
     for (int head = 0; head < 100; head++) {
       if (x.ofName(head, 2) == head) {
         for (int what = 0; what <= 6; what++) {
@@ -320,6 +346,5 @@ public final class WholeTest {
       add(x.history(1, what));
     }
     add(x.isSound() ? 1 : 0);
-    return d;
   }
 }
