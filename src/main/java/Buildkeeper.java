@@ -85,7 +85,6 @@ public final class Buildkeeper {
     }
     if (plan.sort[name] != SOURCE) {
       works.forget(name);
-      works.contents.setEmpty(name);
       plan.addSource(name);
     }
     works.contents.addTo(name, number);
@@ -96,7 +95,7 @@ public final class Buildkeeper {
     checkName(name);
     checkSource(name);
     int before = works.contents.size[name];
-    works.contents.setEmpty(name);
+    works.contents.clear(name);
     return before;
   }
 
@@ -1351,6 +1350,7 @@ public final class Buildkeeper {
   /** The contents of names. */
   private static final class Contents {
     final Plan plan;
+    /** Of products alone: a source always has a content. */
     final int[] there = new int[NAMES];
     /** Both 0 where nothing is there: so a group has an empty content. */
     final int[] size = new int[NAMES];
@@ -1373,11 +1373,6 @@ public final class Buildkeeper {
       there[name] = 0;
       size[name] = 0;
       sums[name] = 0;
-    }
-
-    void setEmpty(int name) {
-      clear(name);
-      there[name] = 1;
     }
 
     void addTo(int name, int number) {

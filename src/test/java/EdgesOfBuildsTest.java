@@ -29,6 +29,8 @@ public final class EdgesOfBuildsTest {
     stopped();
     stoppedAtTheSameTime();
     ringsOfWaiting();
+    longRingsOfWaiting();
+    behindARingOfWaiting();
     foretold();
     history();
     theMostTries();
@@ -132,6 +134,19 @@ public final class EdgesOfBuildsTest {
     y.build(10, 1, 0);
     Check.is(y.last(11), 1);
     became(y, 10, FAILED, 9, 1);
+    // what was settled before it was found stays so, by its head and by its second product
+    Buildkeeper z = new Buildkeeper();
+    Scenes.put(z, 1, 29, 20, 2);
+    z.put(2, 6);
+    tell(z, 20, 0, 3, 2);
+    z.second(20, 29);
+    tell(z, 30, 4, 2, 1, 20);
+    Check.is(z.build(30, 1, 0), 5);
+    Check.is(z.text(30), "1 6 6 6");
+    became(z, 20, DONE, 1, NONE);
+    times(z, 20, 0, 3, 1, 0);
+    Check.is(z.last(3), 2);
+    Check.is(z.last(11), 2);
   }
 
   /** "If one of these has no STEP and is no SOURCE, it FAILED (REASON 9, that NAME)", ahead of HANGS. */
@@ -691,6 +706,62 @@ public final class EdgesOfBuildsTest {
     became(z, 14, FAILED, 7, NONE);
     became(z, 10, STOPPED, 0, NONE);
     Check.is(z.last(9), 5);
+  }
+
+  /** A ring of four, and another one; one of the first waits for the second, too, and looks that way first. */
+  private static void longRingsOfWaiting() {
+    Check.promise(18);
+    Buildkeeper x = new Buildkeeper();
+    x.put(1, 23);
+    x.put(2, 41);
+    tell(x, 20, 4, 1, 1);
+    tell(x, 21, 0, 1, 20);
+    tell(x, 22, 0, 1, 21);
+    tell(x, 40, 4, 1, 2);
+    tell(x, 41, 0, 1, 40);
+    tell(x, 15, 0, 1, 40);
+    tell(x, 23, 0, 1, 15, 22);
+    tell(x, 50, 0, 1, 2, 23);
+    Check.is(x.build(50, 3, 0), 0);
+    became(x, 20, FAILED, 10, 23);
+    became(x, 21, FAILED, 10, 20);
+    became(x, 22, FAILED, 10, 21);
+    became(x, 23, FAILED, 10, 15);
+    became(x, 40, FAILED, 10, 41);
+    became(x, 41, FAILED, 10, 40);
+    became(x, 15, HANGS, 11, 40);
+    became(x, 50, HANGS, 11, 23);
+    Check.is(x.last(7), 6);
+    Check.is(x.last(8), 2);
+  }
+
+  /** Who waits for a ring is not of it, however many wait for it in turn. */
+  private static void behindARingOfWaiting() {
+    Check.promise(18);
+    Buildkeeper x = new Buildkeeper();
+    x.put(1, 21);
+    x.put(2, 3);
+    tell(x, 20, 4, 1, 1);
+    tell(x, 21, 0, 1, 20);
+    tell(x, 10, 0, 1, 20);
+    tell(x, 80, 0, 1, 10);
+    tell(x, 81, 0, 1, 10);
+    tell(x, 90, 0, 1, 80, 81, 10);
+    Check.is(x.build(90, 1, 0), 0);
+    became(x, 20, FAILED, 10, 21);
+    became(x, 21, FAILED, 10, 20);
+    became(x, 10, HANGS, 11, 20);
+    became(x, 80, HANGS, 11, 10);
+    became(x, 81, HANGS, 11, 10);
+    became(x, 90, HANGS, 11, 80);
+    // one with a smaller head and more needs than those behind it
+    tell(x, 5, 0, 1, 1, 2, 10);
+    Check.is(x.build(5, 1, 0), 0);
+    became(x, 20, FAILED, 10, 21);
+    became(x, 10, HANGS, 11, 20);
+    became(x, 5, HANGS, 11, 10);
+    Check.is(x.last(7), 2);
+    Check.is(x.last(8), 2);
   }
 
   /** "FORETOLD of a STEP: the mean, rounded down, of how many minutes it took in the last three BUILDS (or as many as there are)." */

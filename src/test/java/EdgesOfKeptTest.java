@@ -190,6 +190,9 @@ public final class EdgesOfKeptTest {
     x.unpattern(2);
     Check.is(x.text(12), "?");
     Check.is(x.ofName(12, 0), 0);
+    Check.is(x.ofName(12, 1), NONE);
+    Check.is(x.sum(12), NONE);
+    Check.index(() -> x.number(12, 0));
     Check.is(x.house(3), 2);
     Check.state(() -> x.ofStep(12, 6));
     Check.state(() -> x.alter(12, 1));

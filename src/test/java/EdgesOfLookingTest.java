@@ -14,6 +14,7 @@ public final class EdgesOfLookingTest {
     noRecord();
     anotherRule();
     otherNames();
+    otherNamesFound();
     anotherSum();
     productsNotThere();
     anotherSumOfAProduct();
@@ -177,6 +178,46 @@ public final class EdgesOfLookingTest {
     looks(y, 3, 1);
     y.unneed(10, 0);
     looks(y, 0, NONE);
+  }
+
+  /** The same of what is FOUND: more, fewer and other names behind the needs. */
+  private static void otherNamesFound() {
+    Check.promise(18);
+    Buildkeeper x = new Buildkeeper();
+    Scenes.put(x, 1, 3, 4);
+    for (int name = 2; name <= 5; name++) {
+      x.put(name, name);
+    }
+    Scenes.step(x, 10, 4, 1, 2);
+    x.build(10, 1, 0);
+    Check.is(x.text(10), "3 4 2");
+    Check.is(x.ofStep(10, 8), 4);
+    Scenes.step(x, 11, 0, 90);
+    Scenes.step(x, 12, 6, 10, 11);
+    x.mode(false, 0);
+    looks(x, 0, NONE);
+    x.put(1, 5);
+    looks(x, 3, 5);
+    x.wipe(1);
+    looks(x, 3, 3);
+    x.put(1, 3);
+    looks(x, 3, 4);
+    x.put(1, 5);
+    looks(x, 3, 5);
+    x.wipe(1);
+    Scenes.put(x, 1, 4, 3);
+    looks(x, 3, 4);
+    x.wipe(1);
+    Scenes.put(x, 1, 3, 4);
+    looks(x, 0, NONE);
+    x.put(4, 0);
+    looks(x, 4, 4);
+    // a need more comes ahead of what was found
+    x.need(10, 5);
+    looks(x, 3, 5);
+    x.unneed(10, 2);
+    x.unneed(10, 1);
+    looks(x, 3, 3);
   }
 
   private static void anotherSum() {

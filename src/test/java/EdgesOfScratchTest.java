@@ -16,6 +16,9 @@ public final class EdgesOfScratchTest {
     markedByARecord();
     markedByPatterns();
     wouldAnswersAsABuildDoes();
+    wouldDoesNothingAgain();
+    wouldHasTheWholeCache();
+    wouldHasAnEmptyCache();
     soundOrNot();
     Check.end();
   }
@@ -414,6 +417,80 @@ public final class EdgesOfScratchTest {
     Check.promise(40);
     Check.is(x.would(11, 1, 2), 2);
     Check.is(x.last(2), 3);
+  }
+
+  /** The first one that asks would() after a BUILD finds all CLEAN, of each KIND. */
+  private static void wouldDoesNothingAgain() {
+    for (int kind = 0; kind <= 5; kind++) {
+      Buildkeeper x = new Buildkeeper();
+      Scenes.put(x, 1, 2, 3);
+      Scenes.put(x, 2, 7);
+      Scenes.put(x, 3, 8);
+      tell(x, 10, kind, 4, 1);
+      x.second(10, 19);
+      x.build(10, 1, 0);
+      Check.promise(40);
+      Check.is(x.would(10, 1, 5), 1);
+      Check.is(x.would(10, 1, 3) + x.would(10, 1, 4), 0);
+      Check.promise(41);
+      Check.is(x.wouldDo(10, 0), NONE);
+    }
+  }
+
+  /** As many entries as there can be, of 12 steps: all of them would be FETCHED, and stay where they are. */
+  private static void wouldHasTheWholeCache() {
+    Check.promise(40);
+    Buildkeeper x = new Buildkeeper();
+    x.put(1, 5);
+    x.cache(12);
+    for (int head = 10; head < 22; head++) {
+      tell(x, head, 3, head, 1);
+      x.build(head, 1, 0);
+      x.remove(head);
+    }
+    for (int group = 0; group < 2; group++) {
+      tell(x, 30 + group, 6, 0);
+      for (int i = 0; i < 6; i++) {
+        x.need(30 + group, 10 + group * 6 + i);
+      }
+    }
+    tell(x, 40, 6, 0, 30, 31);
+    Check.is(x.would(40, 1, 6), 12);
+    Check.is(x.would(40, 1, 3), 0);
+    Check.is(x.cached(1), 12);
+    Check.is(x.cached(2), 0);
+    Check.promise(49);
+    Check.is(x.isSound(), true);
+    Check.promise(18);
+    Check.is(x.build(40, 1, 0), 0);
+    Check.is(x.last(6), 12);
+    Check.is(x.cached(2), 12);
+  }
+
+  /** An empty CACHE is one, too: what would be put in would be FETCHED behind it; what it held before is gone. */
+  private static void wouldHasAnEmptyCache() {
+    Check.promise(40);
+    Buildkeeper x = new Buildkeeper();
+    x.put(1, 5);
+    tell(x, 10, 0, 0, 1);
+    tell(x, 20, 0, 0, 10);
+    Check.is(x.would(20, 1, 3), 2);
+    x.cache(1);
+    Check.is(x.would(20, 1, 3), 1);
+    Check.is(x.would(20, 1, 6), 1);
+    x.build(20, 1, 0);
+    Check.is(x.last(6), 1);
+    Check.is(x.cached(1), 1);
+    x.cache(0);
+    x.cache(3);
+    x.remove(10);
+    x.remove(20);
+    Check.is(x.would(10, 1, 3), 1);
+    Check.is(x.would(10, 1, 6), 0);
+    tell(x, 30, 0, 0);
+    Check.is(x.would(30, 1, 3), 1);
+    Check.is(x.would(30, 1, 6), 0);
+    Check.is(x.cached(1), 0);
   }
 
   private static boolean isMade(Buildkeeper x, int head) {
